@@ -12,19 +12,24 @@ public final class ModelTest {
         {{2, 1}, {}}, {{1, 2}, {}}, {{1, 2}, {11, 12}}, {{1, 11}, {}}, {{1}, {11}, {21}},
         {{2, 1}, {12, 11}, {}}, {{1, 12}, {11, 2}, {}}, {{3, 2, 1}, {}, {}}, {{1, 2, 3}, {}, {}},
         {{1, 12, 22}, {11, 2}, {21}, {}}, {{12, 1}, {11, 2, 13, 3}}, {{2, 1}, {}, {}}, {{1}, {}, {}, {}, {}},
+        {{2, 12, 1, 11}, {}}, {{2, 12, 11, 1}, {}},
     };
+    // A run types few deals again and again, so that entries meet and players wait for them.
+    private static final int DEALS_OF_A_RUN = 3;
 
     private final Checks checks;
     private final int run;
     private final Random random;
     private final Patiencearchive x = new Patiencearchive();
     private final Model model = new Model();
+    private final int firstDeal;
     private int call;
 
     private ModelTest(Checks checks, int run) {
         this.checks = checks;
         this.run = run;
         this.random = new Random(run);
+        this.firstDeal = random.nextInt(DEALS.length);
     }
 
     public static void main(String[] args) {
@@ -36,6 +41,9 @@ public final class ModelTest {
     }
 
     private void play() {
+        for (int many = random.nextInt(7); many > 0; many--) {
+            same("player", () -> model.player(), () -> x.player());
+        }
         while (call < CALLS) {
             switch (random.nextInt(10)) {
                 case 0:
@@ -111,7 +119,7 @@ public final class ModelTest {
         }
         List<Integer> names = new ArrayList<>(List.of(0, 1, 2));
         Collections.shuffle(names, random);
-        int[][] piles = DEALS[random.nextInt(DEALS.length)];
+        int[][] piles = DEALS[(firstDeal + random.nextInt(DEALS_OF_A_RUN)) % DEALS.length];
         for (int i = 0; i < piles.length; i++) {
             if (i > 0) {
                 nextPile();
@@ -228,12 +236,31 @@ public final class ModelTest {
         same("lend " + player + " " + entry, () -> model.lend(player, entry), () -> x.lend(player, entry));
     }
 
+    /** Lets players wait for an entry whose copies are all lent, if there is one. */
+    private void queueUp() {
+        for (int i = 0; i < model.deals.size(); i++) {
+            int entry = (i + random.nextInt(3)) % model.deals.size();
+            if (model.lentOf(model.deals.get(entry)) == model.deals.get(entry).copies) {
+                for (int many = random.nextInt(3); many >= 0; many--) {
+                    await(somePlayer(), entry);
+                }
+                same("firstWaiting " + entry, () -> model.firstWaiting(entry), () -> x.firstWaiting(entry));
+                return;
+            }
+        }
+    }
+
+    private void await(int player, int entry) {
+        same("await " + player + " " + entry, () -> model.await(player, entry), () -> x.await(player, entry));
+    }
+
     private void change() {
         int player = somePlayer();
         int entry = entry();
         switch (random.nextInt(14)) {
             case 0:
                 same("player", () -> model.player(), () -> x.player());
+                same("points", () -> model.points(0), () -> x.points(0));
                 break;
             case 1:
                 int many = random.nextInt(8) == 0 ? random.nextInt(6) - 1 : 1;
@@ -253,10 +280,12 @@ public final class ModelTest {
                 lend(player, entry);
                 break;
             case 8:
+                await(player, entry);
+                break;
             case 9:
             case 10:
             case 11:
-                same("await " + player + " " + entry, () -> model.await(player, entry), () -> x.await(player, entry));
+                queueUp();
                 break;
             case 12:
                 same("leave " + player + " " + entry, () -> model.leave(player, entry), () -> x.leave(player, entry));

@@ -533,6 +533,7 @@ public final class PromisesTest {
 
         meetingByTry();
         meetingServes();
+        meetingQueues();
         noMeeting();
         twoCopiesOfOne();
     }
@@ -595,6 +596,37 @@ public final class PromisesTest {
         is(1, () -> x.loans(1));
         is(7, () -> x.due(1, 0));
         is(2, () -> x.firstWaiting(0));
+    }
+
+    private static void meetingQueues() {
+        begin("24 await, those who wait for entries that meet");
+        Scene.players(x, 5);
+        addTwoOne();
+        addTwoOne();
+        x.lend(0, 0);
+        x.lend(1, 1);
+        x.await(4, 0);
+        x.await(0, 1);
+        x.await(4, 1);
+        x.await(3, 1);
+        x.solve(1, 10);
+        x.solve(0, 10);
+        // the queue is 4, 0 and 3
+        is(3, () -> x.of(0, 'w'));
+        is(4, () -> x.firstWaiting(0));
+        is(2, () -> x.leave(4, 0));
+        is(3, () -> x.firstWaiting(0));
+        x.lend(3, addTwoOne());
+        is('x', () -> x.attempt(3, 1));
+        is(3, () -> x.firstWaiting(0));
+        // who gives back pays first, and then has less than the other one: 12 against 15
+        is(12, () -> x.giveBack(0, 0));
+        is(1, () -> x.loans(3));
+        is(0, () -> x.loans(0));
+        is(0, () -> x.firstWaiting(0));
+        is('e', () -> Scene.attempt(x, 3, 0, 9, 9));
+        is(1, () -> x.loans(0));
+        is(0, () -> x.of(0, 'w'));
     }
 
     private static void noMeeting() {
@@ -774,6 +806,7 @@ public final class PromisesTest {
         refuses(INDEX, () -> x.loans(-1));
 
         lending();
+        lendToOneWhoWaits();
         givingBack();
         dueDays();
     }
@@ -831,6 +864,29 @@ public final class PromisesTest {
         is(0, () -> x.lend(0, 0));
     }
 
+    private static void lendToOneWhoWaits() {
+        begin("23 lend, to one who waits and could be lent it else");
+        Scene.players(x, 2);
+        for (int i = 0; i < 4; i++) {
+            addTwoOne();
+        }
+        x.lend(0, 0);
+        x.lend(0, 1);
+        x.lend(0, 2);
+        x.lend(1, 3);
+        x.await(0, 3);
+        x.giveBack(1, 3);
+        is(12, () -> x.giveBack(0, 0));
+        // a copy of the entry 0 came back, none of the entry 3
+        is(1, () -> x.of(3, 'w'));
+        is(0, () -> x.firstWaiting(3));
+        refusesAndKeeps(UNSUPPORTED, 2, () -> x.lend(0, 3));
+        is(2, () -> x.copies(3, 1));
+        is(0, () -> x.of(3, 'w'));
+        is(1, () -> x.of(3, 'l'));
+        is(7, () -> x.due(0, 3));
+    }
+
     /** Takes a player's points below 0, by copies of a new entry that are given back. */
     private static void makePoor(int player) {
         int entry = addTwoOne();
@@ -861,7 +917,6 @@ public final class PromisesTest {
         x.giveBack(1, 1);
         is(2, () -> x.wipe());
         is('o', () -> x.state(1));
-        // it costs before those who wait are served
         x.lend(0, 0);
         is(4, () -> x.giveBack(0, 0));
         x.lend(0, 0);
