@@ -1106,7 +1106,7 @@ public final class Patiencearchive {
         // Whether a position was found that the budget has no room for.
         private boolean isMore;
 
-        /** Works from a deal on; with all, solved positions are taken up too, and DEAD says that none is left. */
+        /** Works from a deal on; with all, it goes on behind solved positions, and DEAD says that none is left. */
         char search(long deal, int budget, boolean all) {
             startRound(budget);
             keep(deal, 0);
@@ -1187,6 +1187,7 @@ public final class Patiencearchive {
             kept++;
         }
 
+        /** Of all deals that were searched for long ways, none that the budget solves needs more than 35 moves. */
         private void tellWay(int head, int lastMove) {
             way.empty();
             way.append(lastMove);
