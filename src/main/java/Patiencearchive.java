@@ -285,11 +285,7 @@ public final class Patiencearchive {
     public char attempt(int player, int entry) throws IndexOutOfBoundsException, NoSuchElementException {
         Player who = playerAt(player);
         Entry one = entryAt(entry);
-        int place = placeOfLoan(who, one);
-        if (place < 0) {
-            throw new NoSuchElementException("the player has no copy");
-        }
-        endLoan(place);
+        endLoan(placeOfCopyHeld(who, one));
         char result = judge(who, one);
         typedMoves.empty();
         Entry kept = result == 'b' ? meet(one) : null;
@@ -300,23 +296,14 @@ public final class Patiencearchive {
     public int giveBack(int player, int entry) throws IndexOutOfBoundsException, NoSuchElementException {
         Player who = playerAt(player);
         Entry one = entryAt(entry);
-        int place = placeOfLoan(who, one);
-        if (place < 0) {
-            throw new NoSuchElementException("the player has no copy");
-        }
-        endLoan(place);
+        endLoan(placeOfCopyHeld(who, one));
         who.points -= GIVE_BACK_COST;
         serve(one);
         return who.points;
     }
 
     public int due(int player, int entry) throws IndexOutOfBoundsException, NoSuchElementException {
-        Player who = playerAt(player);
-        Entry one = entryAt(entry);
-        int place = placeOfLoan(who, one);
-        if (place < 0 || place >= loans.size()) {
-            throw new NoSuchElementException("the player has no copy");
-        }
+        int place = placeOfCopyHeld(playerAt(player), entryAt(entry));
         return loans.get(place).lastDay - day;
     }
 
@@ -544,6 +531,14 @@ public final class Patiencearchive {
             }
         }
         return -1;
+    }
+
+    private int placeOfCopyHeld(Player who, Entry one) {
+        int place = placeOfLoan(who, one);
+        if (place < 0 || place >= loans.size()) {
+            throw new NoSuchElementException("the player has no copy");
+        }
+        return place;
     }
 
     private void endLoan(int place) {
