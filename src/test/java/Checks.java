@@ -22,13 +22,27 @@ final class Checks {
         is(what, "throws " + due.getSimpleName(), call);
     }
 
-    /** The answer of a call, or the name of what it throws. */
+    /** The answer of a call, or the name of what it throws, and whether the class left that to the machine. */
     static Object answer(Call call) {
         try {
             return call.run();
         } catch (RuntimeException e) {
-            return "throws " + e.getClass().getSimpleName();
+            return "throws " + e.getClass().getSimpleName() + (isByTheMachine(e) ? " by the machine" : "");
         }
+    }
+
+    /** The class must test what it uses, and throw by a throw of its own, that of a list's get or a division not being one. */
+    private static boolean isByTheMachine(RuntimeException e) {
+        StackTraceElement[] trace = e.getStackTrace();
+        if (trace.length == 0 || "/ by zero".equals(e.getMessage())) {
+            return true;
+        }
+        for (StackTraceElement call : trace) {
+            if (!call.getClassName().startsWith("java.") && !call.getClassName().startsWith("jdk.")) {
+                return call.getClassName().startsWith("Patiencearchive") && call != trace[0];
+            }
+        }
+        return true;
     }
 
     int wrong() {

@@ -75,6 +75,50 @@ final class Scene {
         }
     }
 
+    private static int players(Patiencearchive x) {
+        for (int i = 0; ; i++) {
+            int player = i;
+            if (!(Checks.answer(() -> x.points(player)) instanceof Integer)) {
+                return i;
+            }
+        }
+    }
+
+    static String all(Patiencearchive x) {
+        return all(x, players(x));
+    }
+
+    /** What is typed and lent, and the day, told by calls that use them up. */
+    static String used(Patiencearchive x) {
+        StringBuilder text = new StringBuilder();
+        for (int p = 0; p < players(x); p++) {
+            for (int e = 0; e < x.entries(); e++) {
+                int player = p;
+                int entry = e;
+                text.append(Checks.answer(() -> x.attempt(player, entry))).append(why(x)).append(' ');
+            }
+        }
+        int before = x.entries();
+        text.append(Checks.answer(x::add));
+        for (int entry = before; entry < x.entries(); entry++) {
+            text.append(cards(x, entry));
+        }
+        text.append(' ').append(Checks.answer(() -> x.card(1))).append(' ').append(Checks.answer(x::pile));
+        text.append(' ').append(Checks.answer(() -> x.move(0, 9))).append(' ').append(x.wipe());
+        text.append(' ').append(x.days(30)).append('\n').append(all(x));
+        return text.toString();
+    }
+
+    /** The cards of an entry, pile by pile from below. */
+    static String cards(Patiencearchive x, int entry) {
+        StringBuilder text = new StringBuilder();
+        for (int i = 0; i < x.of(entry, 'p'); i++) {
+            int pile = i;
+            text.append(i == 0 ? "" : " / ").append(row(j -> x.cardOf(entry, pile, j), " "));
+        }
+        return text.toString().trim().replaceAll(" +", " ");
+    }
+
     static String all(Patiencearchive x, int players) {
         StringBuilder text = new StringBuilder();
         text.append(x.checksum()).append(' ').append(x.taken()).append(' ').append(x.keyMoves());
