@@ -262,7 +262,11 @@ public final class SentencesTest {
         doc.says("Lets the solver work on an entry.",
                 "deal 1 /; deal 2 1 /; solve 1 9 = s; state 0 = o; state 1 = s; key 1 = 9 9; taken = 2",
                 "players 1; deal 2 1 /; lend 0 0; solve 0 9 = s; points 0 = 20; loans 0 = 1; of 0 l = 1; go 9; wipe = 1");
-        doc.says("the budget, 1 to 20000", "deal 1 /; solve 0 1 = s; solve 0 20000 = s");
+        doc.says("the budget, 1 to 20000", "deal 1 /; solve 0 1 = s; solve 0 20000 = s",
+                // the 20000th position that is taken up finds a solved one, or the 20001st would
+                "deal 13 22 / 2 11 12 / 23 3 24 4 / / 1 21 14; solve 0 19999 = o; taken = 19999; state 0 = o; solve 0 20000 = s; "
+                        + "taken = 20000; of 0 k = 16; isSound = true",
+                "deal 3 2 23 / / 12 / 1 11 4 24 22 21 / 14 13; solve 0 20000 = o; taken = 20000; state 0 = o; key 0 =");
         doc.says("Returns what it found: 's', 'd' or 'o'; an entry that is solved or dead stays so, if it is open.",
                 "deal 1 2 /; solve 0 2 = o; state 0 = o; solve 0 3 = s; state 0 = s; solve 0 2 = o; state 0 = s; key 0 = 1 9 19; "
                         + "solve 0 3 = s; key 0 = 1 9 19",
@@ -303,7 +307,10 @@ public final class SentencesTest {
         doc.says("Throws `UnsupportedOperationException` if more would be taken up",
                 "deal 2 1 /; reach 0 4 ! UnsupportedOperation; reach 0 1 ! UnsupportedOperation; reach 0 5 = 5; taken = 0",
                 "deal 12 1 / 11 2 13 3; reach 0 2 ! UnsupportedOperation; reach 0 3 = 3; state 0 = o",
-                "deal 24 1 4 / 14 2 3 / 13 12 23 22 / 21 11 /; reach 0 20000 ! UnsupportedOperation");
+                "deal 24 1 4 / 14 2 3 / 13 12 23 22 / 21 11 /; reach 0 20000 ! UnsupportedOperation",
+                // just as many positions as the largest budget, and one more
+                "deal / / 1 21 11 2 23 12 24 / 22 4 13 14 3; reach 0 20000 = 20000; reach 0 19999 ! UnsupportedOperation",
+                "deal 24 14 / / 21 11 23 / 22 13 4 12 3 1 2; reach 0 20000 ! UnsupportedOperation");
     }
 
     private void moves() {
